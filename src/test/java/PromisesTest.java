@@ -68,7 +68,7 @@ public final class PromisesTest {
     private static void type() {
         CounterLeaper x = new CounterLeaper();
         Check.dueThrow("type, n = 0", IllegalArgumentException.class, () -> x.type('+', 0));
-        Check.dueThrow("type, n = 9", IllegalArgumentException.class, () -> x.type('+', 9));
+        Check.dueThrow("type, n = 9", IllegalArgumentException.class, () -> x.type(0x2020202020202020L, 9));
         Check.dueThrow("type, n = -1", IllegalArgumentException.class, () -> x.type('+', -1));
         Check.dueThrow("type, code 31", IllegalArgumentException.class, () -> x.type(31, 1));
         Check.dueThrow("type, code 127", IllegalArgumentException.class, () -> x.type(127, 1));
