@@ -1,5 +1,7 @@
 /** What the tests share: they count wrong answers, and type texts into new objects. */
 final class Check {
+    static final long MOST = 1000000000000000L;
+
     private static int wrong = 0;
     private static int answers = 0;
 
@@ -31,6 +33,56 @@ final class Check {
             wrong++;
             System.out.println(call + " threw " + got + ", due is " + want);
         }
+    }
+
+    /** As dueThrow, and the call changes nothing that can be asked for. */
+    static void refused(String call, Class<? extends RuntimeException> want, CounterLeaper x, Call made) {
+        String before = picture(x);
+        dueThrow(call, want, made);
+        same(call + " changes nothing", picture(x), before);
+    }
+
+    static void same(String told, String got, String want) {
+        answers++;
+        if (!got.equals(want)) {
+            wrong++;
+            System.out.println(told + ": got " + got + ", due is " + want);
+        }
+    }
+
+    /** What all calls answer that change nothing. */
+    static String picture(CounterLeaper x) {
+        StringBuilder s = new StringBuilder();
+        for (int i = 0; i < x.size(); i++) {
+            s.append(x.instruction(i, 0)).append(' ').append(x.instruction(i, 1)).append(' ');
+            s.append(x.instruction(i, 2)).append("; ");
+        }
+        for (int k = 0; k < x.loops(); k++) {
+            s.append(x.loop(k, 0)).append('-').append(x.loop(k, 1)).append('-').append(x.loop(k, 2));
+            for (int c = 0; c < 8; c++) {
+                s.append(' ').append(changeOrThrow(x, k, c));
+            }
+            s.append("; ");
+        }
+        return s.append(where(x)).append(" leaps ").append(x.leap(0)).append(' ').append(x.leap(1))
+                .append(' ').append(x.leap(2)).append(' ').append(x.leap(3)).toString();
+    }
+
+    private static String changeOrThrow(CounterLeaper x, int k, int c) {
+        try {
+            return Integer.toString(x.change(k, c));
+        } catch (UnsupportedOperationException e) {
+            return "not full";
+        }
+    }
+
+    /** The state, where it is, its steps and its counters. */
+    static String where(CounterLeaper x) {
+        StringBuilder s = new StringBuilder("state " + x.state() + " at " + x.at() + " steps " + x.steps() + " with");
+        for (int c = 0; c < 8; c++) {
+            s.append(' ').append(x.counter(c));
+        }
+        return s.toString();
     }
 
     /** Prints how the test went and ends it, with exit code 1 if an answer was wrong. */
@@ -72,5 +124,28 @@ final class Check {
         }
         due("compile() of " + text, x.compile(), 0);
         return x;
+    }
+
+    /**
+     * A machine at the first instruction of the body, of which so many steps are left to make, with
+     * the values of a, b, ..
+     */
+    static CounterLeaper late(String body, int left, int... values) {
+        long before = MOST - left - 1;
+        CounterLeaper x = started(lateText(body, left), 0, 0, 0, 0, 0, 0, 0, 1);
+        due("seek(" + before + ") before " + body, x.seek(before), 1);
+        x.set(6, 0);
+        x.set(7, 0);
+        for (int c = 0; c < values.length; c++) {
+            x.set(c, values[c]);
+        }
+        due("one step to " + body, x.plain(1), 1);
+        due("the steps made before " + body, x.steps(), MOST - left);
+        return x;
+    }
+
+    /** A loop before the body is endless while there is an h; the +g make the steps come out even. */
+    static String lateText(String body, int left) {
+        return "+g;".repeat((int) ((MOST - left - 1) % 3)) + "Y:-hX;+h;>Y;X:" + body;
     }
 }

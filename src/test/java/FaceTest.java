@@ -3,15 +3,20 @@ import java.lang.reflect.Field;
 import java.lang.reflect.Method;
 import java.lang.reflect.Modifier;
 import java.util.Set;
+import java.util.StringJoiner;
 import java.util.TreeSet;
 
 /** The public face is that of the document, and the class shows no other member. */
 public final class FaceTest {
     private static final String[] METHODS = {
-        "int type(long,int)", "int wipe()", "int compile()", "int size()", "int instruction(int,int)",
-        "int loops()", "int loop(int,int)", "void set(int,int)", "void start()", "void leaps(boolean)",
-        "int run(int)", "int plain(int)", "int seek(long)", "int state()", "int at()", "long steps()",
-        "int counter(int)", "int change(int,int)", "long leap(int)",
+        "int type(long,int) throws IllegalArgumentException,UnsupportedOperationException", "int wipe()",
+        "int compile()", "int size()", "int instruction(int,int)", "int loops()", "int loop(int,int)",
+        "void set(int,int) throws IllegalArgumentException", "void start() throws IllegalStateException",
+        "void leaps(boolean)", "int run(int) throws IllegalStateException,IllegalArgumentException",
+        "int plain(int) throws IllegalStateException,IllegalArgumentException",
+        "int seek(long) throws IllegalStateException,IllegalArgumentException,UnsupportedOperationException",
+        "int state()", "int at()", "long steps()", "int counter(int)",
+        "int change(int,int) throws IndexOutOfBoundsException,UnsupportedOperationException", "long leap(int)",
     };
 
     private FaceTest() {
@@ -38,11 +43,17 @@ public final class FaceTest {
     }
 
     private static String signature(Method m) {
-        StringBuilder s = new StringBuilder(m.getReturnType() + " " + m.getName() + "(");
-        for (Class<?> type : m.getParameterTypes()) {
-            s.append(s.charAt(s.length() - 1) == '(' ? "" : ",").append(type);
+        String thrown = names(m.getExceptionTypes());
+        return m.getReturnType() + " " + m.getName() + "(" + names(m.getParameterTypes()) + ")"
+                + (thrown.isEmpty() ? "" : " throws " + thrown);
+    }
+
+    private static String names(Class<?>[] types) {
+        StringJoiner names = new StringJoiner(",");
+        for (Class<?> type : types) {
+            names.add(type.getSimpleName());
         }
-        return s.append(")").toString();
+        return names.toString();
     }
 
     private static void fields() {

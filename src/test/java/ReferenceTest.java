@@ -2,6 +2,7 @@
 public final class ReferenceTest {
     private static final int TEXTS = 30000;
     private static final int PROGRAMS = 8000;
+    private static final int LATE_PROGRAMS = 2000;
     private static final int BUDGET = 300000;
 
     private static final Maker MAKER = new Maker(20261115);
@@ -11,6 +12,7 @@ public final class ReferenceTest {
     private static int leaptFarWithDrains = 0;
     private static int endless = 0;
     private static int refused = 0;
+    private static int lateStuck = 0;
 
     private ReferenceTest() {
     }
@@ -24,11 +26,18 @@ public final class ReferenceTest {
         for (int i = 0; i < PROGRAMS; i++) {
             follow(MAKER.anyProgram());
         }
-        System.out.println(followed + " programs, " + leapt + " leaps, " + leaptWithDrains + " with drains, "
+        int before = followed;
+        for (int i = 0; i < LATE_PROGRAMS; i++) {
+            followLate(MAKER.anyProgram());
+        }
+        int late = followed - before;
+        System.out.println(followed + " programs, " + late + " of them near the most steps, " + lateStuck
+                + " up to these, " + leapt + " leaps, " + leaptWithDrains + " with drains, "
                 + leaptFarWithDrains + " of these by several passes, " + endless + " endless, "
                 + refused + " seeks refused");
         Check.due("enough programs were followed", followed > PROGRAMS / 2 ? 1 : 0, 1);
         Check.due("enough leaps", leaptWithDrains > 500 && leaptFarWithDrains > 100 ? 1 : 0, 1);
+        Check.due("enough near the most steps", late > LATE_PROGRAMS / 3 && lateStuck > 100 ? 1 : 0, 1);
         Check.due("enough endless and refused", endless > 100 && refused > 100 ? 1 : 0, 1);
         Check.end();
     }
@@ -57,6 +66,33 @@ public final class ReferenceTest {
             followed++;
         } catch (Reference.TooLong e) {
             // what the words ask is too long to follow by steps
+        }
+    }
+
+    /** The program, begun where there are few steps left to make. */
+    private static void followLate(String text) {
+        String all = "+g;+g;Y:-hX;+h;>Y;X:" + text;
+        if (all.length() > 120 || Reference.fault(all) >= 0) {
+            return;
+        }
+        int left = MAKER.below(MAKER.below(2) == 0 ? 40 : 1000);
+        CounterLeaper x = Check.late(text, left);
+        Reference r = new Reference(Check.lateText(text, left));
+        r.budget = BUDGET;
+        r.place = x.at();
+        r.steps = x.steps();
+        for (int c = 0; c < 4; c++) {
+            r.values[c] = MAKER.anyValue();
+            x.set(c, r.values[c]);
+        }
+        boolean on = MAKER.below(8) > 0;
+        x.leaps(on);
+        try {
+            moves(text + " with " + left + " steps left", x, r, on);
+            followed++;
+            lateStuck += r.steps == Reference.MOST ? 1 : 0;
+        } catch (Reference.TooLong e) {
+            // as above
         }
     }
 
